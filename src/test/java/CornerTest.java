@@ -61,7 +61,8 @@ public final class CornerTest {
         for (int k = 0; k < 3; k++) {
             TileDesk desk = new TileDesk(8, 8);
             for (int c = 0; c < 3; c++) {
-                due.is("corner " + c, desk.corner((c + k) % 3, places[c][0], places[c][1], 100 + c, 1000 * (c + 1)), true);
+                boolean answer = desk.corner((c + k) % 3, places[c][0], places[c][1], 100 + c, 1000 * (c + 1));
+                due.is("corner " + c, answer, true);
             }
             due.is("add turned by " + k, desk.add(0xFFFFFF, 255), 0);
             Desks.beginAndDrawAll(desk);

@@ -6,7 +6,7 @@ public final class NewDeskTest {
         sidesAreBroughtToTheNearest();
         nothingIsThereAtFirst();
         theBackgroundIsZeroAtFirst();
-        theTextsCornersAreAtZeroWithRadiusOneAndNoLight();
+        theTextsCornersAreAtZeroWithR1AndNoLight();
         desksAreApart();
         due.end();
     }
@@ -42,26 +42,19 @@ public final class NewDeskTest {
         due.is("new: background at 3, 3", desk.pixel(3, 3), 0);
     }
 
-    private static void theTextsCornersAreAtZeroWithRadiusOneAndNoLight() {
-        TileDesk desk = new TileDesk(8, 8);
-        due.is("new: add of corners that are all 0 0", desk.add(Desks.WHITE, 255), TileDesk.NONE);
-        desk.corner(1, 256, 0, 1, 0);
-        desk.corner(2, 0, 256, 1, 0);
-        due.is("add with the new corner 0", desk.add(Desks.WHITE, 255), 0);
-        desk.background(Desks.RED);
-        Desks.beginAndDrawAll(desk);
-        due.is("r of the new corner 0", desk.nearness(0, 0), 1);
-        due.is("light of the new corner 0", desk.pixel(0, 0), 0);
-
-        // The new corners 1 and 2 come in turn beside two others that are set.
-        TileDesk second = new TileDesk(8, 8);
-        second.corner(2, 256, 0, 1, 0);
-        second.corner(0, 0, 256, 1, 0);
-        due.is("add with the new corner 1", second.add(Desks.WHITE, 255), 0);
-        TileDesk third = new TileDesk(8, 8);
-        third.corner(0, 256, 0, 1, 0);
-        third.corner(1, 0, 256, 1, 0);
-        due.is("add with the new corner 2", third.add(Desks.WHITE, 255), 0);
+    private static void theTextsCornersAreAtZeroWithR1AndNoLight() {
+        due.is("new: add of corners that are all 0 0", new TileDesk(8, 8).add(Desks.WHITE, 255), TileDesk.NONE);
+        for (int k = 0; k < 3; k++) {
+            TileDesk desk = new TileDesk(8, 8);
+            desk.corner((k + 1) % 3, 256, 0, 2, 0);
+            desk.corner((k + 2) % 3, 0, 256, 2, 0);
+            due.is("add with the new corner " + k, desk.add(Desks.WHITE, 255), 0);
+            desk.background(Desks.RED);
+            Desks.beginAndDrawAll(desk);
+            // The new corner weighs 240 / 256 there: 0.9375 * 1 + 0.0625 * 2 = 1.0625, and 2 if its r were 2.
+            due.is("nearness by the new corner " + k, desk.nearness(0, 0), 1);
+            due.is("light by the new corner " + k, desk.pixel(0, 0), 0);
+        }
     }
 
     private static void desksAreApart() {

@@ -203,7 +203,8 @@ public final class PixelTest {
         due.is("cover 0", mixed(0x123456, new int[] {5, Desks.WHITE, 0}), 0x123456);
         due.is("cover 1", mixed(0, new int[] {5, Desks.WHITE, 1}), 0x010101);
         due.is("cover 254", mixed(0, new int[] {5, Desks.WHITE, 254}), 0xFEFEFE);
-        due.is("cover 254 is clear", mixed(0, new int[] {5, Desks.WHITE, 254}, new int[] {4, Desks.RED, 255}), Desks.RED);
-        due.is("cover 255 is solid", mixed(0, new int[] {5, Desks.WHITE, 255}, new int[] {4, Desks.RED, 255}), Desks.WHITE);
+        int[] redBehind = {4, Desks.RED, 255};
+        due.is("cover 254 is clear", mixed(0, new int[] {5, Desks.WHITE, 254}, redBehind), Desks.RED);
+        due.is("cover 255 is solid", mixed(0, new int[] {5, Desks.WHITE, 255}, redBehind), Desks.WHITE);
     }
 }

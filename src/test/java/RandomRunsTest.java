@@ -34,7 +34,7 @@ public final class RandomRunsTest {
             int k = random.nextInt(40) == 0 ? random.nextInt(7) - 2 : random.nextInt(3);
             int x = place(random, grid, reach);
             int y = place(random, grid, reach);
-            int r = edgeOr(random, 1, 1048576, random.nextBoolean() ? 1 + random.nextInt(40) : 1 + random.nextInt(1048576));
+            int r = edgeOr(random, 1, 1048576, 1 + random.nextInt(random.nextBoolean() ? 40 : 1048576));
             int light = edgeOr(random, 0, 65536, random.nextInt(65537));
             due.is(at + "corner", desk.corner(k, x, y, r, light), reference.corner(k, x, y, r, light));
         } else if (kind < 50) {
@@ -105,8 +105,9 @@ public final class RandomRunsTest {
             int cover = random.nextInt(2) == 0 ? 255 : random.nextInt(256);
             due.is("whole picture " + run + ": add", desk.add(tint, cover), reference.add(tint, cover));
         }
-        due.is("whole picture " + run + ": begin", desk.begin(), reference.begin());
-        for (int k = reference.begin() - 1; k >= 0; k--) {
+        int tiles = reference.begin();
+        due.is("whole picture " + run + ": begin", desk.begin(), tiles);
+        for (int k = tiles - 1; k >= 0; k--) {
             due.is("whole picture " + run + ": tile", desk.tile(k), reference.tile(k));
         }
         for (int y = 0; y < height; y++) {
