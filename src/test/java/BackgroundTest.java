@@ -4,15 +4,17 @@ public final class BackgroundTest {
 
     public static void main(String[] args) {
         coloursAreTaken();
-        whatIsNoColourIsRefusedAndChangesNothing();
+        whatIsNoColourIsRefused();
+        aRefusalChangesNothing();
         itIsTakenWhenThePictureBegins();
         clearPiecesLetItThrough();
         due.end();
     }
 
     private static void coloursAreTaken() {
+        due.says("Promise 5: the background is a colour: true; Terms: each number is 0 .. 255");
         TileDesk desk = new TileDesk(8, 8);
-        int[] colours = {0, 1, 255, 256, 0x123456, 16777214, 16777215, 0};
+        int[] colours = {0, 1, 255, 256, 65535, 65536, 0x123456, 0xFF0000, 16777214, 16777215, 0};
         for (int colour : colours) {
             due.is("background(" + colour + ")", desk.background(colour), true);
             Desks.beginAndDrawAll(desk);
@@ -21,18 +23,30 @@ public final class BackgroundTest {
         }
     }
 
-    private static void whatIsNoColourIsRefusedAndChangesNothing() {
-        TileDesk desk = new TileDesk(8, 8);
-        desk.background(0xABCDEF);
-        int[] wrong = {-1, 16777216, Integer.MIN_VALUE, Integer.MAX_VALUE};
-        for (int colour : wrong) {
-            due.is("background(" + colour + ")", desk.background(colour), false);
+    private static final int[] NO_COLOURS = {
+        -1, -2, -256, -16777216, 16777216, 16777217, 1 << 30, Integer.MIN_VALUE, Integer.MIN_VALUE + 1, Integer.MAX_VALUE
+    };
+
+    private static void whatIsNoColourIsRefused() {
+        due.says("Promise 5: false if it is none");
+        for (int colour : NO_COLOURS) {
+            due.is("background(" + colour + ")", new TileDesk(8, 8).background(colour), false);
         }
-        Desks.beginAndDrawAll(desk);
-        due.is("pixel after refused backgrounds", desk.pixel(0, 0), 0xABCDEF);
+    }
+
+    private static void aRefusalChangesNothing() {
+        due.says("Promise 5: false if it is none (and then the background is what it was)");
+        for (int colour : NO_COLOURS) {
+            TileDesk desk = new TileDesk(8, 8);
+            desk.background(0xABCDEF);
+            desk.background(colour);
+            Desks.beginAndDrawAll(desk);
+            due.is("pixel after background(" + colour + ")", desk.pixel(0, 0), 0xABCDEF);
+        }
     }
 
     private static void itIsTakenWhenThePictureBegins() {
+        due.says("Terms: begin() takes the background as it is then; what comes later is not seen");
         TileDesk desk = new TileDesk(16, 8);
         desk.background(Desks.RED);
         desk.begin();
@@ -46,12 +60,8 @@ public final class BackgroundTest {
     }
 
     private static void clearPiecesLetItThrough() {
-        TileDesk desk = new TileDesk(8, 8);
-        Desks.wideText(desk, 1, Desks.LIT);
-        desk.background(0x0A64FF);
-        desk.add(0xFF0A00, 51);
-        Desks.beginAndDrawAll(desk);
+        due.says("What it is: clear ones let it through");
         // 255 * 51 + 10 * 204 = 15045, 10 * 51 + 100 * 204 = 20910, 255 * 204 = 52020, each by 255.
-        due.is("a fifth of a clear piece", desk.pixel(0, 0), 0x3B52CC);
+        due.is("a fifth of a clear piece", Desks.mixed(0x0A64FF, new int[] {1, 0xFF0A00, 51}), 0x3B52CC);
     }
 }

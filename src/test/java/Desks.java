@@ -23,12 +23,57 @@ final class Desks {
         text(desk, r, light, -1000, -1000, 4000, -1000, -1000, 4000);
     }
 
+    /** A desk of one tile whose text covers every pixel, with r 100 and all the light. */
+    static TileDesk wideDesk() {
+        TileDesk desk = new TileDesk(8, 8);
+        wideText(desk, 100, LIT);
+        return desk;
+    }
+
     static int beginAndDrawAll(TileDesk desk) {
         int tiles = desk.begin();
         for (int k = 0; k < tiles; k++) {
             desk.tile(k);
         }
         return tiles;
+    }
+
+    /**
+     * The colour of a pixel under pieces that are wide and fully lit, each told as its nearness,
+     * tint and cover.
+     */
+    static int mixed(int background, int[]... pieces) {
+        return drawn(background, pieces).pixel(2, 6);
+    }
+
+    /** The nearness there, of the same. */
+    static int nearest(int background, int[]... pieces) {
+        return drawn(background, pieces).nearness(2, 6);
+    }
+
+    private static TileDesk drawn(int background, int[]... pieces) {
+        TileDesk desk = new TileDesk(8, 8);
+        desk.background(background);
+        for (int[] piece : pieces) {
+            wideText(desk, piece[0], LIT);
+            desk.add(piece[1], piece[2]);
+        }
+        beginAndDrawAll(desk);
+        return desk;
+    }
+
+    /**
+     * A drawn desk with one white, solid piece: corner 0 on the middle of pixel 0 0, corner 1 six
+     * pixels to its right, corner 2 six below it.
+     */
+    static TileDesk leaning(int[] rs, int[] lights) {
+        TileDesk desk = new TileDesk(8, 8);
+        desk.corner(0, 8, 8, rs[0], lights[0]);
+        desk.corner(1, 104, 8, rs[1], lights[1]);
+        desk.corner(2, 8, 104, rs[2], lights[2]);
+        desk.add(WHITE, 255);
+        beginAndDrawAll(desk);
+        return desk;
     }
 
     /** The first 8 rows of 8 pixels: '#' where the colour is not the background's 0. */

@@ -1,49 +1,97 @@
-/** Promise 9: nearness. */
+/** Promise 9: nearness, with what the Terms say of it at one piece. */
 public final class NearnessTest {
+    private static final int MIN = Integer.MIN_VALUE;
+    private static final int MAX = Integer.MAX_VALUE;
+    private static final int[] DARK = {0, 0, 0};
     private static final Due due = new Due();
 
     public static void main(String[] args) {
-        noneWhereNoTileIsDoneOrNoPixelIs();
+        theNearnessAtEachPixel();
+        noneWithNoPicture();
+        noneIfItsTileIsNotDone();
+        noneInThePictureThatBeganSince();
+        noneIfThereIsNoSuchPixel();
+        noneBesideAShortLastTile();
         itGoesEvenlyFromCornerToCorner();
-        itIsRoundedDown();
-        clearPiecesLeaveIt();
-        theNearestSolidPieceCounts();
+        itIsTheGreatestWholeNumberNotAbove();
         itsEdges();
         due.end();
     }
 
-    private static void noneWhereNoTileIsDoneOrNoPixelIs() {
+    private static void theNearnessAtEachPixel() {
+        due.says("Promise 9: the nearness at a pixel");
+        TileDesk desk = new TileDesk(9, 10);
+        for (int n = 0; n < 90; n += 2) {
+            int x = 16 * (n % 9) + 8;
+            int y = 16 * (n / 9) + 8;
+            Desks.text(desk, n + 1, Desks.LIT, x - 2, y - 2, x + 4, y - 2, x - 2, y + 4);
+            desk.add(0, 255);
+        }
+        Desks.beginAndDrawAll(desk);
+        for (int n = 0; n < 90; n++) {
+            int want = n % 2 == 0 ? n + 1 : 0;
+            due.is("nearness(" + n % 9 + ", " + n / 9 + ")", desk.nearness(n % 9, n / 9), want);
+        }
+    }
+
+    private static void noneWithNoPicture() {
+        due.says("Promise 9: NONE if its tile is not done: there is no picture");
         TileDesk desk = new TileDesk(20, 12);
-        due.is("nearness with no picture", desk.nearness(0, 0), TileDesk.NONE);
+        due.is("new: nearness(0, 0)", desk.nearness(0, 0), TileDesk.NONE);
+        desk.tile(0);
+        due.is("after a refused tile: nearness(0, 0)", desk.nearness(0, 0), TileDesk.NONE);
+        due.is("new: nearness(19, 11)", desk.nearness(19, 11), TileDesk.NONE);
+    }
+
+    private static void noneIfItsTileIsNotDone() {
+        due.says("Promise 9: NONE if its tile is not done");
+        TileDesk desk = new TileDesk(20, 12);
         desk.begin();
-        due.is("nearness with no tile", desk.nearness(0, 0), TileDesk.NONE);
+        due.is("nearness(16, 8) with no tile", desk.nearness(16, 8), TileDesk.NONE);
         desk.tile(5);
         due.is("nearness(16, 8)", desk.nearness(16, 8), 0);
         due.is("nearness(19, 11)", desk.nearness(19, 11), 0);
         due.is("nearness(15, 8)", desk.nearness(15, 8), TileDesk.NONE);
         due.is("nearness(16, 7)", desk.nearness(16, 7), TileDesk.NONE);
+    }
+
+    private static void noneInThePictureThatBeganSince() {
+        due.says("Promise 9: NONE if its tile is not done, in this picture");
+        TileDesk desk = new TileDesk(8, 8);
+        Desks.beginAndDrawAll(desk);
+        due.is("nearness(0, 0)", desk.nearness(0, 0), 0);
+        desk.begin();
+        due.is("nearness(0, 0) of the next", desk.nearness(0, 0), TileDesk.NONE);
+    }
+
+    private static void noneIfThereIsNoSuchPixel() {
+        due.says("Promise 9: NONE if there is none such");
+        TileDesk desk = new TileDesk(24, 16);
         Desks.beginAndDrawAll(desk);
         int[][] wrong = {
-            {-1, 0}, {0, -1}, {20, 0}, {0, 12}, {20, 11}, {19, 12}, {23, 11}, {-1, 5},
-            {Integer.MIN_VALUE, 0}, {Integer.MAX_VALUE, 0}, {0, Integer.MIN_VALUE}, {0, Integer.MAX_VALUE}
+            {-1, 0}, {0, -1}, {-1, -1}, {24, 0}, {0, 16}, {24, 15}, {23, 16}, {24, 16}, {-1, 5}, {-8, 5},
+            {-24, 1}, {25, 3}, {48, 2}, {383, 0}, {384, 0}, {5, -8}, {MIN, 0}, {MAX, 0}, {0, MIN}, {0, MAX},
+            {MAX, MAX}, {MIN, MIN}, {0, 1 << 29}, {1 << 28, 0}, {0, 178956971}, {5, MIN + 8}, {MIN + 8, 5}
         };
         for (int[] w : wrong) {
             due.is("nearness(" + w[0] + ", " + w[1] + ")", desk.nearness(w[0], w[1]), TileDesk.NONE);
         }
     }
 
-    private static TileDesk leaning(int r0, int r1, int r2) {
-        TileDesk desk = new TileDesk(8, 8);
-        desk.corner(0, 8, 8, r0, 0);
-        desk.corner(1, 104, 8, r1, 0);
-        desk.corner(2, 8, 104, r2, 0);
-        desk.add(Desks.WHITE, 255);
+    private static void noneBesideAShortLastTile() {
+        due.says("Promise 9: NONE if there is none such, beside a last tile that has less");
+        TileDesk desk = new TileDesk(20, 12);
         Desks.beginAndDrawAll(desk);
-        return desk;
+        due.is("nearness(19, 11)", desk.nearness(19, 11), 0);
+        for (int beyond = 0; beyond < 4; beyond++) {
+            due.is("nearness(" + (20 + beyond) + ", 5)", desk.nearness(20 + beyond, 5), TileDesk.NONE);
+            due.is("nearness(5, " + (12 + beyond) + ")", desk.nearness(5, 12 + beyond), TileDesk.NONE);
+        }
     }
 
     private static void itGoesEvenlyFromCornerToCorner() {
-        TileDesk desk = leaning(100, 700, 6100);
+        due.says("Terms: its NEARNESS is DIV(h, AREA)");
+        TileDesk desk = Desks.leaning(new int[] {100, 700, 6100}, DARK);
         for (int j = 0; j < 6; j++) {
             for (int i = 0; i + j < 6; i++) {
                 due.is("nearness(" + i + ", " + j + ")", desk.nearness(i, j), 100 + 100 * i + 1000 * j);
@@ -52,8 +100,9 @@ public final class NearnessTest {
         due.is("nearness beside the piece", desk.nearness(6, 0), 0);
     }
 
-    private static void itIsRoundedDown() {
-        TileDesk desk = leaning(100, 101, 99);
+    private static void itIsTheGreatestWholeNumberNotAbove() {
+        due.says("Terms: DIV(a, b): the greatest whole number that is not above a / b, in the nearness");
+        TileDesk desk = Desks.leaning(new int[] {100, 101, 99}, DARK);
         for (int i = 0; i < 6; i++) {
             due.is("a little above 100, at " + i + ", 0", desk.nearness(i, 0), 100);
         }
@@ -62,35 +111,8 @@ public final class NearnessTest {
         }
     }
 
-    private static void clearPiecesLeaveIt() {
-        TileDesk desk = new TileDesk(8, 8);
-        Desks.wideText(desk, 90, Desks.LIT);
-        desk.add(Desks.RED, 254);
-        desk.begin();
-        desk.tile(0);
-        due.is("nearness under a clear piece", desk.nearness(0, 0), 0);
-        Desks.wideText(desk, 30, Desks.LIT);
-        desk.add(Desks.RED, 255);
-        Desks.wideText(desk, 60, Desks.LIT);
-        desk.add(Desks.RED, 0);
-        desk.begin();
-        desk.tile(0);
-        due.is("nearness of a solid piece between clear ones", desk.nearness(0, 0), 30);
-    }
-
-    private static void theNearestSolidPieceCounts() {
-        TileDesk desk = new TileDesk(8, 8);
-        int[] rs = {5, 3, 9, 9, 8, 1};
-        for (int r : rs) {
-            Desks.wideText(desk, r, Desks.LIT);
-            desk.add(r, 255);
-        }
-        Desks.beginAndDrawAll(desk);
-        due.is("the nearest of six", desk.nearness(1, 1), 9);
-        due.is("the colour of the nearest of six", desk.pixel(1, 1), 9);
-    }
-
     private static void itsEdges() {
+        due.says("Terms: the nearness of r 1 and of r 1048576; all is worked out in longs");
         TileDesk desk = new TileDesk(48, 48);
         Desks.text(desk, 1048576, 65536, -4096, -4096, 4096, -4096, 4096, 4096);
         desk.add(Desks.WHITE, 255);

@@ -1,12 +1,12 @@
 import java.util.Random;
 
-/** Promises 1 to 10 together: long runs of mixed calls against the Reference, the same ones each time. */
+/** Promises 1 to 10 together: runs of 512 mixed calls against the Reference, the same ones each time. */
 public final class RandomRunsTest {
     private static final Due due = new Due();
     private static final int CALLS = 512;
 
     public static void main(String[] args) {
-        for (int run = 0; run < 300; run++) {
+        for (int run = 0; run < 400; run++) {
             mixedRun(run);
         }
         for (int run = 0; run < 40; run++) {
@@ -17,49 +17,41 @@ public final class RandomRunsTest {
 
     private static void mixedRun(int run) {
         Random random = new Random(run);
-        int width = random.nextInt(60) - 4;
-        int height = random.nextInt(60) - 4;
-        TileDesk desk = new TileDesk(width, height);
-        Reference reference = new Reference(width, height);
+        Pair pair = new Pair(due, "run " + run, random.nextInt(60) - 4, random.nextInt(60) - 4);
         int grid = 1 << random.nextInt(5);
         int reach = run % 3 == 0 ? 4096 : 16 * 50;
-        for (int call = 0; call < CALLS; call++) {
-            oneCall("run " + run + ", call " + call + ": ", random, desk, reference, grid, reach);
+        while (pair.calls() < CALLS) {
+            oneCall(pair, random, grid, reach);
         }
     }
 
-    private static void oneCall(String at, Random random, TileDesk desk, Reference reference, int grid, int reach) {
+    private static void oneCall(Pair pair, Random random, int grid, int reach) {
         int kind = random.nextInt(100);
         if (kind < 36) {
             int k = random.nextInt(40) == 0 ? random.nextInt(7) - 2 : random.nextInt(3);
             int x = place(random, grid, reach);
             int y = place(random, grid, reach);
             int r = edgeOr(random, 1, 1048576, 1 + random.nextInt(random.nextBoolean() ? 40 : 1048576));
-            int light = edgeOr(random, 0, 65536, random.nextInt(65537));
-            due.is(at + "corner", desk.corner(k, x, y, r, light), reference.corner(k, x, y, r, light));
+            pair.corner(k, x, y, r, edgeOr(random, 0, 65536, random.nextInt(65537)));
         } else if (kind < 50) {
             int tint = edgeOr(random, 0, 16777215, random.nextInt(16777216));
-            int cover = random.nextInt(3) == 0 ? 255 : edgeOr(random, 0, 255, random.nextInt(256));
-            due.is(at + "add", desk.add(tint, cover), reference.add(tint, cover));
-        } else if (kind == 50 && random.nextInt(4) == 0) {
-            desk.clear();
-            reference.clear();
+            pair.add(tint, random.nextInt(3) == 0 ? 255 : edgeOr(random, 0, 255, random.nextInt(256)));
+        } else if (kind == 50) {
+            if (random.nextInt(4) == 0) {
+                pair.clear();
+            }
         } else if (kind == 51) {
-            int colour = edgeOr(random, 0, 16777215, random.nextInt(16777216));
-            due.is(at + "background", desk.background(colour), reference.background(colour));
+            pair.background(edgeOr(random, 0, 16777215, random.nextInt(16777216)));
         } else if (kind == 52) {
-            due.is(at + "begin", desk.begin(), reference.begin());
+            pair.begin();
         } else if (kind < 66) {
-            int k = random.nextInt(40) - 2;
-            due.is(at + "tile", desk.tile(k), reference.tile(k));
-        } else if (kind < 94) {
-            int x = random.nextInt(52) - 2;
-            int y = random.nextInt(52) - 2;
-            due.is(at + "pixel", desk.pixel(x, y), reference.pixel(x, y));
-            due.is(at + "nearness", desk.nearness(x, y), reference.nearness(x, y));
+            pair.tile(random.nextInt(40) - 2);
+        } else if (kind < 81) {
+            pair.pixel(random.nextInt(52) - 2, random.nextInt(52) - 2);
+        } else if (kind < 96) {
+            pair.nearness(random.nextInt(52) - 2, random.nextInt(52) - 2);
         } else {
-            int what = random.nextInt(7) - 1;
-            due.is(at + "count", desk.count(what), reference.count(what));
+            pair.count(random.nextInt(7) - 1);
         }
     }
 
@@ -85,37 +77,35 @@ public final class RandomRunsTest {
         }
     }
 
-    /** Every pixel of a picture of many pieces. */
+    /** Every pixel of a picture of many pieces: drawn anew for every two rows, for the sake of 512 calls. */
     private static void wholePicture(int run) {
-        Random random = new Random(1000 + run);
-        int width = 8 + random.nextInt(41);
-        int height = 8 + random.nextInt(41);
-        TileDesk desk = new TileDesk(width, height);
-        Reference reference = new Reference(width, height);
+        for (int first = 0; first < 48; first += 2) {
+            Random random = new Random(1000 + run);
+            int width = 8 + random.nextInt(41);
+            int height = 8 + random.nextInt(41);
+            Pair pair = new Pair(due, "whole picture " + run, width, height);
+            addManyPieces(pair, random, run);
+            for (int k = pair.begin() - 1; k >= 0; k--) {
+                pair.tile(k);
+            }
+            for (int y = first; y < first + 2 && y < height; y++) {
+                for (int x = 0; x < width; x++) {
+                    pair.pixel(x, y);
+                    pair.nearness(x, y);
+                }
+            }
+        }
+    }
+
+    private static void addManyPieces(Pair pair, Random random, int run) {
         for (int n = 0; n < 60; n++) {
             for (int k = 0; k < 3; k++) {
                 int x = place(random, run % 2 == 0 ? 16 : 1, 1000);
                 int y = place(random, run % 2 == 0 ? 16 : 1, 1000);
                 int r = 1 + random.nextInt(run % 4 == 0 ? 3 : 1048576);
-                int light = random.nextInt(65537);
-                desk.corner(k, x, y, r, light);
-                reference.corner(k, x, y, r, light);
+                pair.corner(k, x, y, r, random.nextInt(65537));
             }
-            int tint = random.nextInt(16777216);
-            int cover = random.nextInt(2) == 0 ? 255 : random.nextInt(256);
-            due.is("whole picture " + run + ": add", desk.add(tint, cover), reference.add(tint, cover));
-        }
-        int tiles = reference.begin();
-        due.is("whole picture " + run + ": begin", desk.begin(), tiles);
-        for (int k = tiles - 1; k >= 0; k--) {
-            due.is("whole picture " + run + ": tile", desk.tile(k), reference.tile(k));
-        }
-        for (int y = 0; y < height; y++) {
-            for (int x = 0; x < width; x++) {
-                String at = "whole picture " + run + " at " + x + ", " + y + ": ";
-                due.is(at + "pixel", desk.pixel(x, y), reference.pixel(x, y));
-                due.is(at + "nearness", desk.nearness(x, y), reference.nearness(x, y));
-            }
+            pair.add(random.nextInt(16777216), random.nextInt(2) == 0 ? 255 : random.nextInt(256));
         }
     }
 }
