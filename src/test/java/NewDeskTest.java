@@ -14,6 +14,7 @@ public final class NewDeskTest {
         theTextsCornersHaveR1();
         theTextsCornersHaveNoLight();
         desksAreApart();
+        desksUsedInTurnAreApart();
         due.end();
     }
 
@@ -139,5 +140,38 @@ public final class NewDeskTest {
         due.is("another desk: count(0)", other.count(0), 0);
         due.is("another desk: pixel(0, 0)", other.pixel(0, 0), TileDesk.NONE);
         due.is("another desk: add", other.add(Desks.RED, 255), TileDesk.NONE);
+    }
+
+    /** Every call on the one is followed by the same kind of call on the other, with other numbers. */
+    private static void desksUsedInTurnAreApart() {
+        due.says("Terms: all memory is the desk's own, also when two are used in turn");
+        Pair one = new Pair(due, "one of two", 20, 12);
+        Pair other = new Pair(due, "the other of two", 30, 16);
+        one.background(0x102030);
+        other.background(0x405060);
+        for (int k = 0; k < 3; k++) {
+            one.corner(k, k == 1 ? 300 : -20, k == 2 ? 280 : -30, 50 + k, 65536 - k);
+            other.corner(k, k == 2 ? 400 : 10, k == 0 ? 250 : 5, 90 - k, 30000 + k);
+        }
+        one.add(0xF0E0D0, 255);
+        other.add(0x0A0B0C, 100);
+        one.add(0x112233, 30);
+        one.begin();
+        other.begin();
+        other.clear();
+        for (int k = 0; k < 6; k++) {
+            one.tile(k);
+            other.tile(7 - k);
+        }
+        one.counts();
+        other.counts();
+        one.pixel(19, 11);
+        other.pixel(29, 15);
+        for (int at = 0; at < 12; at++) {
+            one.pixel(at, 11 - at);
+            other.pixel(at + 10, 15 - at);
+            one.nearness(at, at);
+            other.nearness(29 - at, at);
+        }
     }
 }
